@@ -1,0 +1,229 @@
+/** Promises 12 to 15: the tape, the law's text and its faults. */
+public final class LawTextTest {
+    public static void main(String[] args) {
+        tape();
+        bytesOfNumbers();
+        goodTexts();
+        noTokens();
+        misplaced();
+        moneyThatCannotBe();
+        limits();
+        depth();
+        faultsInOrder();
+        lawThatStays();
+        Due.end("LawTextTest");
+    }
+
+    private static void tape() {
+        HomeRoll x = new HomeRoll();
+        Due.is("end(1) of nothing", x.end(1), -1);
+        Due.is("end(0) of nothing", x.end(0), 0);
+        for (int i = 1; i <= 30; i++) {
+            Due.is("feed", x.feed(0, 0, 0, 0, 0), i * 20);
+        }
+        Due.is("31st feed", x.feed(0, 0, 0, 0, 0), -1);
+        Due.is("about(7)", x.about(7), 600);
+        Due.is("end(601)", x.end(601), -1);
+        Due.is("end(-1)", x.end(-1), -1);
+        Due.is("end(600)", x.end(600), 600);
+        Due.is("end(581)", x.end(581), 581);
+        Due.is("feed to 601", x.feed(0, 0, 0, 0, 0), -1);
+        Due.is("about(7)", x.about(7), 581);
+        Due.is("end(580)", x.end(580), 580);
+        Due.is("feed to 600", x.feed(0, 0, 0, 0, 0), 600);
+        Due.is("end(3)", x.end(3), 3);
+        Due.is("feed to 23", x.feed(0, 0, 0, 0, 0), 23);
+        Due.is("law of 0 bytes", x.law(), -1);
+        Due.is("about(7) behind law", x.about(7), 0);
+    }
+
+    private static void bytesOfNumbers() {
+        HomeRoll x = new HomeRoll();
+        x.feed(0x7768656e, 0x20312064, 0x6f206261, 0x636b3b20, 0x20202020);
+        Due.is("when 1 do back;", x.law(), 1);
+        x.feed(0x20202020, 0x20202020, 0x20202020, 0x20202020, 0x202020ff);
+        Due.is("a byte above 127", x.law(), -1);
+        Due.is("its fault", x.fault(0), 1);
+        Due.is("its place", x.fault(1), 19);
+        x.feed(0x80000000, 0, 0, 0, 0);
+        Due.is("the highest first", x.law(), -1);
+        Due.is("its place", x.fault(1), 0);
+        x.feed(0x0a0a0a0a, 0x20202020, 0x0a200a20, 0x20202020, 0x0a0a0a0a);
+        Due.is("blanks", x.law(), 0);
+        Due.is("fault(0)", x.fault(0), 0);
+        Due.is("fault(1)", x.fault(1), -1);
+    }
+
+    private static void goodTexts() {
+        good("", 0);
+        good("   \n ", 0);
+        good("when forced do back;", 1);
+        good("when 1 do back;", 1);
+        good("when1 do back;when(forced)do none;", 2);
+        good("when forced+given-price<worth+7 and not(year=3 or held>2)or lives do money0;", 1);
+        good("when not not hands do other;when dead do money 100;", 2);
+        good("when 1=1 do money 0000100;", 1);
+        good("when 9999999 do back;", 1);
+        good("when\nlives\ndo\nback\n;\n", 1);
+        good("when 1<2 and(1)do back;", 1);
+    }
+
+    private static void noTokens() {
+        bad("?", 1, 0);
+        bad("when forced do back; .", 1, 21);
+        bad("When forced do back;", 1, 0);
+        bad("when Forced do back;", 1, 5);
+        bad("when\tforced do back;", 1, 4);
+        bad("when forced\rdo back;", 1, 11);
+        bad("when abcdefghi do back;", 1, 5);
+        bad("abcdefghi", 1, 0);
+        bad("when 12345678 do back;", 1, 5);
+        bad("when 00000001 do back;", 1, 5);
+        bad("when 1234567890123456789012 do back;", 1, 5);
+        bad("when 1do back;", 1, 5);
+        bad("when 1 do money 5x;", 1, 16);
+        bad("when 1 do money 101x;", 1, 16);
+        bad("when 12A do back;", 1, 7);
+        bad("when 1 do back\u0000;", 1, 14);
+        bad("when 1 * 2 do back;", 1, 7);
+    }
+
+    private static void misplaced() {
+        bad("forced", 2, 0);
+        bad("back", 2, 0);
+        bad(";", 2, 0);
+        bad("abcdefgh", 2, 0);
+        bad("when", 2, 4);
+        bad("when   ", 2, 7);
+        bad("when do back;", 2, 5);
+        bad("when forced", 2, 11);
+        bad("when forced back;", 2, 12);
+        bad("when forced do;", 2, 14);
+        bad("when forced do forced;", 2, 15);
+        bad("when forced do back", 2, 19);
+        bad("when forced do back when", 2, 20);
+        bad("when forced do back;;", 2, 20);
+        bad("when forced do money;", 2, 20);
+        bad("when forced do money", 2, 20);
+        bad("when forced do money worth;", 2, 21);
+        bad("when forced do back 5;", 2, 20);
+        bad("when forced and do back;", 2, 16);
+        bad("when or forced do back;", 2, 5);
+        bad("when forced or or given do back;", 2, 15);
+        bad("when 1 < 2 < 3 do back;", 2, 11);
+        bad("when 1 < = 3 do back;", 2, 9);
+        bad("when (1) < 3 do back;", 2, 9);
+        bad("when (1) + 3 do back;", 2, 9);
+        bad("when 1 < (3) do back;", 2, 9);
+        bad("when 1 + (3) do back;", 2, 9);
+        bad("when 1 + not 3 do back;", 2, 9);
+        bad("when 1 = not 3 do back;", 2, 9);
+        bad("when - 3 do back;", 2, 5);
+        bad("when 1 -- 3 do back;", 2, 8);
+        bad("when () do back;", 2, 6);
+        bad("when (1 do back;", 2, 8);
+        bad("when 1) do back;", 2, 6);
+        bad("when ((1) do back;", 2, 10);
+        bad("when not do back;", 2, 9);
+        bad("when 1 2 do back;", 2, 7);
+        bad("when deadyear do back;", 2, 5);
+        bad("whenforced do back;", 1, 0);
+        bad("when force do back;", 2, 5);
+        bad("when forceds do back;", 2, 5);
+        bad("when when do back;", 2, 5);
+        bad("when none do back;", 2, 5);
+    }
+
+    private static void moneyThatCannotBe() {
+        bad("when 1 do money 101;", 3, 16);
+        bad("when 1 do money 9999999;", 3, 16);
+        bad("when 1 do money0000101;", 3, 15);
+        bad("when 1 do money 101", 3, 16);
+        bad("when 1 do money 200 ?", 3, 16);
+    }
+
+    private static void limits() {
+        String line = "when 1 do back;";
+        good(line.repeat(16), 16);
+        good(line.repeat(16) + "   ", 16);
+        bad(line.repeat(17), 2, 240);
+        bad(line.repeat(16) + " \n when", 2, 243);
+        bad(line.repeat(16) + ";", 2, 240);
+        bad(line.repeat(16) + "!", 1, 240);
+        good("when " + "1+".repeat(79) + "1 do back;", 1);
+        bad("when " + "1+".repeat(80) + "1 do back;", 2, 165);
+        bad("when " + "1+".repeat(80) + "do back;", 2, 165);
+        bad("when " + "1+".repeat(80) + "?", 1, 165);
+        String forty = "when " + "1-".repeat(39) + "1 do money 5;";
+        good(forty.repeat(2), 2);
+        bad(forty.repeat(2) + line, 2, forty.length() * 2 + 5);
+        good("when " + "1 or ".repeat(79) + "1 do back;", 1);
+        bad("when " + "1 or ".repeat(80) + "1 do back;", 2, 405);
+        good("when " + "1 and ".repeat(79) + "1 do back;", 1);
+        String most = line + " ".repeat(570) + line;
+        good(most, 2);
+    }
+
+    private static void depth() {
+        good("when ((((( 1 ))))) do back;", 1);
+        bad("when (((((( 1 )))))) do back;", 2, 12);
+        bad("when ((((((", 2, 11);
+        bad("when ((((((?", 1, 11);
+        good("when " + "not ".repeat(5) + "1 do back;", 1);
+        bad("when " + "not ".repeat(6) + "1 do back;", 2, 29);
+        bad("when " + "not ".repeat(7) + "1 do back;", 2, 29);
+        good("when not(not(not 1)) and not(not(not 1)) do back;", 1);
+        bad("when not(not(not(1))) do back;", 2, 17);
+        good("when not (1 and (2 or (3 and (4)))) or not not not not not 5 do back;", 1);
+        bad("when (1 or (2 or (3 or (4 or (5 or (6)))))) do back;", 2, 36);
+    }
+
+    private static void faultsInOrder() {
+        bad("when do ?", 2, 5);
+        bad("when ? do", 1, 5);
+        bad("when 1 do money 101 101x", 3, 16);
+        bad("when 1 ) ? do money 101;", 2, 7);
+    }
+
+    private static void lawThatStays() {
+        HomeRoll x = Due.withPeople(2);
+        x.house(0, 100);
+        x.paper(0, 0, 1, 0, 1, 0);
+        x.claim(0);
+        Due.is("fault(0) at first", x.fault(0), 0);
+        Due.is("fault(1) at first", x.fault(1), -1);
+        Due.is("about(4) at first", x.about(4), 0);
+        Due.is("a law", Due.law(x, "when forced do money 7;when 1 do none;"), 2);
+        Due.is("a fault", Due.law(x, "when 1 do back;when 1 do back;when 1 do back;when"), -1);
+        Due.is("the tape is empty", x.about(7), 0);
+        Due.is("the law stays", x.about(4), 2);
+        Due.is("its ruling", x.ruling(0, 0), 3);
+        Due.is("its sum", x.sum(0, 0), 7);
+        Due.is("fault(0)", x.fault(0), 2);
+        Due.is("fault(1)", x.fault(1), 49);
+        Due.is("fault(2)", x.fault(2), -1);
+        Due.is("fault(-1)", x.fault(-1), -1);
+        Due.is("an empty tape is a law", x.law(), 0);
+        Due.is("fault(0) is gone", x.fault(0), 0);
+        Due.is("fault(1) is gone", x.fault(1), -1);
+        Due.is("its ruling", x.ruling(0, 0), 4);
+        Due.is("a third law", Due.law(x, "when 0 do other;when 1 do back;"), 2);
+        Due.is("its ruling", x.ruling(0, 0), 1);
+    }
+
+    private static void good(String text, int lines) {
+        HomeRoll x = new HomeRoll();
+        Due.is("law of: " + text, Due.law(x, text), lines);
+        Due.is("fault of: " + text, x.fault(0), 0);
+        Due.is("place in: " + text, x.fault(1), -1);
+        Due.is("lines of: " + text, x.about(4), lines);
+    }
+
+    private static void bad(String text, int fault, int place) {
+        HomeRoll x = new HomeRoll();
+        Due.is("law of: " + text, Due.law(x, text), -1);
+        Due.is("fault of: " + text, x.fault(0), fault);
+        Due.is("place in: " + text, x.fault(1), place);
+        Due.is("lines of: " + text, x.about(4), 0);
+    }
+}
