@@ -638,11 +638,10 @@ public final class HomeRoll {
         private static final int WORD_LETTERS = 8;
         private static final int NUMBER_DIGITS = 7;
 
+        // the kinds of token: words by their rows in both texts, signs by their places in SIGNS behind the semicolon
         static final int WHEN = 9;
         static final int DO = 10;
         static final int BACK = 11;
-        static final int OTHER = 12;
-        static final int MONEY = 13;
         static final int NOTHING = 14;
         static final int OR = 15;
         static final int AND = 16;
@@ -655,7 +654,6 @@ public final class HomeRoll {
         static final int OPEN = 23;
         static final int CLOSE = 24;
         static final int LESS = 25;
-        static final int MORE = 26;
         static final int LIKE = 27;
         static final int PLUS = 28;
         static final int MINUS = 29;
@@ -688,7 +686,7 @@ public final class HomeRoll {
             if (isDigit(text[at])) {
                 return scanNumber(text, length, at);
             }
-            int sign = text[at] > 0 ? SIGNS.indexOf((char) text[at]) : NONE;
+            int sign = text[at] >= 0 ? SIGNS.indexOf((char) text[at]) : NONE;
             if (sign < 0) {
                 return NONE;
             }

@@ -10,6 +10,7 @@ public final class LawTextTest {
         limits();
         depth();
         faultsInOrder();
+        cutTapes();
         lawThatStays();
         Due.end("LawTextTest");
     }
@@ -132,6 +133,10 @@ public final class LawTextTest {
         bad("when forceds do back;", 2, 5);
         bad("when when do back;", 2, 5);
         bad("when none do back;", 2, 5);
+        bad("when xorced do back;", 2, 5);
+        bad("when forcex do back;", 2, 5);
+        bad("zzz", 2, 0);
+        bad("az", 2, 0);
     }
 
     private static void moneyThatCannotBe() {
@@ -183,6 +188,29 @@ public final class LawTextTest {
         bad("when ? do", 1, 5);
         bad("when 1 do money 101 101x", 3, 16);
         bad("when 1 ) ? do money 101;", 2, 7);
+    }
+
+    /** What stood on the tape behind its end is not there. */
+    private static void cutTapes() {
+        cut("abcdefgh", "i", 2);
+        cut("when 1 do money 100;12", "x", 2);
+        cut("when 1 do money 100;1234567", "8", 2);
+        cut("when 1 do money 10", "1", 2);
+        cut("when 1 do bac", "k;", 2);
+        HomeRoll x = new HomeRoll();
+        Due.write(x, "when 1 do back;when 2 do back;");
+        x.end(15);
+        Due.is("a law that was cut", x.law(), 1);
+        x.feed(0x20202020, 0x20202020, 0x20202020, 0x20202020, 0x20202020);
+        Due.is("the next tape begins anew", x.law(), 0);
+    }
+
+    private static void cut(String text, String behind, int fault) {
+        HomeRoll x = new HomeRoll();
+        Due.write(x, text + behind);
+        x.end(text.length());
+        Due.is("law of: " + text, x.law(), -1);
+        Due.is("fault of: " + text, x.fault(0), fault);
     }
 
     private static void lawThatStays() {
