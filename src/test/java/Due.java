@@ -2,15 +2,23 @@
 final class Due {
     private static int wrong = 0;
     private static int asked = 0;
+    private static int sentences = 0;
+    private static String sentence = "";
 
     private Due() {
+    }
+
+    /** The document's words that the next answers are held against. */
+    static void sentence(String words) {
+        sentences++;
+        sentence = "[" + words + "] ";
     }
 
     static void is(String call, long got, long want) {
         asked++;
         if (got != want) {
             wrong++;
-            System.out.println(call + " answered " + got + ", due is " + want);
+            System.out.println(sentence + call + " answered " + got + ", due is " + want);
         }
     }
 
@@ -20,7 +28,8 @@ final class Due {
 
     /** Ends the program: with exit code 1 if an answer was not the one that is due. */
     static void end(String test) {
-        System.out.println(test + ": " + asked + " answers, " + wrong + " not as due");
+        String quoted = sentences > 0 ? sentences + " sentences, " : "";
+        System.out.println(test + ": " + quoted + asked + " answers, " + wrong + " not as due");
         System.exit(wrong == 0 && asked > 0 ? 0 : 1);
     }
 
@@ -33,10 +42,12 @@ final class Due {
         return x;
     }
 
+    /** In so many steps that a day which is never come to can't hold up the test. */
     static void goTo(HomeRoll x, int day) {
-        while (x.about(3) < day) {
-            x.later(Math.min(1000, day - x.about(3)));
+        for (int today = x.about(3); today < day; today += 1000) {
+            x.later(Math.min(1000, day - today));
         }
+        is("today", x.about(3), day);
     }
 
     /** Puts a text on an empty tape. */

@@ -56,138 +56,138 @@ public final class LawTextTest {
     }
 
     private static void goodTexts() {
-        good("", 0);
-        good("   \n ", 0);
-        good("when forced do back;", 1);
-        good("when 1 do back;", 1);
-        good("when1 do back;when(forced)do none;", 2);
-        good("when forced+given-price<worth+7 and not(year=3 or held>2)or lives do money0;", 1);
-        good("when not not hands do other;when dead do money 100;", 2);
-        good("when 1=1 do money 0000100;", 1);
-        good("when 9999999 do back;", 1);
-        good("when\nlives\ndo\nback\n;\n", 1);
-        good("when 1<2 and(1)do back;", 1);
+        Texts.good("", 0);
+        Texts.good("   \n ", 0);
+        Texts.good("when forced do back;", 1);
+        Texts.good("when 1 do back;", 1);
+        Texts.good("when1 do back;when(forced)do none;", 2);
+        Texts.good("when forced+given-price<worth+7 and not(year=3 or held>2)or lives do money0;", 1);
+        Texts.good("when not not hands do other;when dead do money 100;", 2);
+        Texts.good("when 1=1 do money 0000100;", 1);
+        Texts.good("when 9999999 do back;", 1);
+        Texts.good("when\nlives\ndo\nback\n;\n", 1);
+        Texts.good("when 1<2 and(1)do back;", 1);
     }
 
     private static void noTokens() {
-        bad("?", 1, 0);
-        bad("when forced do back; .", 1, 21);
-        bad("When forced do back;", 1, 0);
-        bad("when Forced do back;", 1, 5);
-        bad("when\tforced do back;", 1, 4);
-        bad("when forced\rdo back;", 1, 11);
-        bad("when abcdefghi do back;", 1, 5);
-        bad("abcdefghi", 1, 0);
-        bad("when 12345678 do back;", 1, 5);
-        bad("when 00000001 do back;", 1, 5);
-        bad("when 1234567890123456789012 do back;", 1, 5);
-        bad("when 1do back;", 1, 5);
-        bad("when 1 do money 5x;", 1, 16);
-        bad("when 1 do money 101x;", 1, 16);
-        bad("when 12A do back;", 1, 7);
-        bad("when 1 do back\u0000;", 1, 14);
-        bad("when 1 * 2 do back;", 1, 7);
+        Texts.bad("?", 1, 0);
+        Texts.bad("when forced do back; .", 1, 21);
+        Texts.bad("When forced do back;", 1, 0);
+        Texts.bad("when Forced do back;", 1, 5);
+        Texts.bad("when\tforced do back;", 1, 4);
+        Texts.bad("when forced\rdo back;", 1, 11);
+        Texts.bad("when abcdefghi do back;", 1, 5);
+        Texts.bad("abcdefghi", 1, 0);
+        Texts.bad("when 12345678 do back;", 1, 5);
+        Texts.bad("when 00000001 do back;", 1, 5);
+        Texts.bad("when 1234567890123456789012 do back;", 1, 5);
+        Texts.bad("when 1do back;", 1, 5);
+        Texts.bad("when 1 do money 5x;", 1, 16);
+        Texts.bad("when 1 do money 101x;", 1, 16);
+        Texts.bad("when 12A do back;", 1, 7);
+        Texts.bad("when 1 do back\u0000;", 1, 14);
+        Texts.bad("when 1 * 2 do back;", 1, 7);
     }
 
     private static void misplaced() {
-        bad("forced", 2, 0);
-        bad("back", 2, 0);
-        bad(";", 2, 0);
-        bad("abcdefgh", 2, 0);
-        bad("when", 2, 4);
-        bad("when   ", 2, 7);
-        bad("when do back;", 2, 5);
-        bad("when forced", 2, 11);
-        bad("when forced back;", 2, 12);
-        bad("when forced do;", 2, 14);
-        bad("when forced do forced;", 2, 15);
-        bad("when forced do back", 2, 19);
-        bad("when forced do back when", 2, 20);
-        bad("when forced do back;;", 2, 20);
-        bad("when forced do money;", 2, 20);
-        bad("when forced do money", 2, 20);
-        bad("when forced do money worth;", 2, 21);
-        bad("when forced do back 5;", 2, 20);
-        bad("when forced and do back;", 2, 16);
-        bad("when or forced do back;", 2, 5);
-        bad("when forced or or given do back;", 2, 15);
-        bad("when 1 < 2 < 3 do back;", 2, 11);
-        bad("when 1 < = 3 do back;", 2, 9);
-        bad("when (1) < 3 do back;", 2, 9);
-        bad("when (1) + 3 do back;", 2, 9);
-        bad("when 1 < (3) do back;", 2, 9);
-        bad("when 1 + (3) do back;", 2, 9);
-        bad("when 1 + not 3 do back;", 2, 9);
-        bad("when 1 = not 3 do back;", 2, 9);
-        bad("when - 3 do back;", 2, 5);
-        bad("when 1 -- 3 do back;", 2, 8);
-        bad("when () do back;", 2, 6);
-        bad("when (1 do back;", 2, 8);
-        bad("when 1) do back;", 2, 6);
-        bad("when ((1) do back;", 2, 10);
-        bad("when not do back;", 2, 9);
-        bad("when 1 2 do back;", 2, 7);
-        bad("when deadyear do back;", 2, 5);
-        bad("whenforced do back;", 1, 0);
-        bad("when force do back;", 2, 5);
-        bad("when forceds do back;", 2, 5);
-        bad("when when do back;", 2, 5);
-        bad("when none do back;", 2, 5);
-        bad("when xorced do back;", 2, 5);
-        bad("when forcex do back;", 2, 5);
-        bad("zzz", 2, 0);
-        bad("az", 2, 0);
+        Texts.bad("forced", 2, 0);
+        Texts.bad("back", 2, 0);
+        Texts.bad(";", 2, 0);
+        Texts.bad("abcdefgh", 2, 0);
+        Texts.bad("when", 2, 4);
+        Texts.bad("when   ", 2, 7);
+        Texts.bad("when do back;", 2, 5);
+        Texts.bad("when forced", 2, 11);
+        Texts.bad("when forced back;", 2, 12);
+        Texts.bad("when forced do;", 2, 14);
+        Texts.bad("when forced do forced;", 2, 15);
+        Texts.bad("when forced do back", 2, 19);
+        Texts.bad("when forced do back when", 2, 20);
+        Texts.bad("when forced do back;;", 2, 20);
+        Texts.bad("when forced do money;", 2, 20);
+        Texts.bad("when forced do money", 2, 20);
+        Texts.bad("when forced do money worth;", 2, 21);
+        Texts.bad("when forced do back 5;", 2, 20);
+        Texts.bad("when forced and do back;", 2, 16);
+        Texts.bad("when or forced do back;", 2, 5);
+        Texts.bad("when forced or or given do back;", 2, 15);
+        Texts.bad("when 1 < 2 < 3 do back;", 2, 11);
+        Texts.bad("when 1 < = 3 do back;", 2, 9);
+        Texts.bad("when (1) < 3 do back;", 2, 9);
+        Texts.bad("when (1) + 3 do back;", 2, 9);
+        Texts.bad("when 1 < (3) do back;", 2, 9);
+        Texts.bad("when 1 + (3) do back;", 2, 9);
+        Texts.bad("when 1 + not 3 do back;", 2, 9);
+        Texts.bad("when 1 = not 3 do back;", 2, 9);
+        Texts.bad("when - 3 do back;", 2, 5);
+        Texts.bad("when 1 -- 3 do back;", 2, 8);
+        Texts.bad("when () do back;", 2, 6);
+        Texts.bad("when (1 do back;", 2, 8);
+        Texts.bad("when 1) do back;", 2, 6);
+        Texts.bad("when ((1) do back;", 2, 10);
+        Texts.bad("when not do back;", 2, 9);
+        Texts.bad("when 1 2 do back;", 2, 7);
+        Texts.bad("when deadyear do back;", 2, 5);
+        Texts.bad("whenforced do back;", 1, 0);
+        Texts.bad("when force do back;", 2, 5);
+        Texts.bad("when forceds do back;", 2, 5);
+        Texts.bad("when when do back;", 2, 5);
+        Texts.bad("when none do back;", 2, 5);
+        Texts.bad("when xorced do back;", 2, 5);
+        Texts.bad("when forcex do back;", 2, 5);
+        Texts.bad("zzz", 2, 0);
+        Texts.bad("az", 2, 0);
     }
 
     private static void moneyThatCannotBe() {
-        bad("when 1 do money 101;", 3, 16);
-        bad("when 1 do money 9999999;", 3, 16);
-        bad("when 1 do money0000101;", 3, 15);
-        bad("when 1 do money 101", 3, 16);
-        bad("when 1 do money 200 ?", 3, 16);
+        Texts.bad("when 1 do money 101;", 3, 16);
+        Texts.bad("when 1 do money 9999999;", 3, 16);
+        Texts.bad("when 1 do money0000101;", 3, 15);
+        Texts.bad("when 1 do money 101", 3, 16);
+        Texts.bad("when 1 do money 200 ?", 3, 16);
     }
 
     private static void limits() {
         String line = "when 1 do back;";
-        good(line.repeat(16), 16);
-        good(line.repeat(16) + "   ", 16);
-        bad(line.repeat(17), 2, 240);
-        bad(line.repeat(16) + " \n when", 2, 243);
-        bad(line.repeat(16) + ";", 2, 240);
-        bad(line.repeat(16) + "!", 1, 240);
-        good("when " + "1+".repeat(79) + "1 do back;", 1);
-        bad("when " + "1+".repeat(80) + "1 do back;", 2, 165);
-        bad("when " + "1+".repeat(80) + "do back;", 2, 165);
-        bad("when " + "1+".repeat(80) + "?", 1, 165);
+        Texts.good(line.repeat(16), 16);
+        Texts.good(line.repeat(16) + "   ", 16);
+        Texts.bad(line.repeat(17), 2, 240);
+        Texts.bad(line.repeat(16) + " \n when", 2, 243);
+        Texts.bad(line.repeat(16) + ";", 2, 240);
+        Texts.bad(line.repeat(16) + "!", 1, 240);
+        Texts.good("when " + "1+".repeat(79) + "1 do back;", 1);
+        Texts.bad("when " + "1+".repeat(80) + "1 do back;", 2, 165);
+        Texts.bad("when " + "1+".repeat(80) + "do back;", 2, 165);
+        Texts.bad("when " + "1+".repeat(80) + "?", 1, 165);
         String forty = "when " + "1-".repeat(39) + "1 do money 5;";
-        good(forty.repeat(2), 2);
-        bad(forty.repeat(2) + line, 2, forty.length() * 2 + 5);
-        good("when " + "1 or ".repeat(79) + "1 do back;", 1);
-        bad("when " + "1 or ".repeat(80) + "1 do back;", 2, 405);
-        good("when " + "1 and ".repeat(79) + "1 do back;", 1);
+        Texts.good(forty.repeat(2), 2);
+        Texts.bad(forty.repeat(2) + line, 2, forty.length() * 2 + 5);
+        Texts.good("when " + "1 or ".repeat(79) + "1 do back;", 1);
+        Texts.bad("when " + "1 or ".repeat(80) + "1 do back;", 2, 405);
+        Texts.good("when " + "1 and ".repeat(79) + "1 do back;", 1);
         String most = line + " ".repeat(570) + line;
-        good(most, 2);
+        Texts.good(most, 2);
     }
 
     private static void depth() {
-        good("when ((((( 1 ))))) do back;", 1);
-        bad("when (((((( 1 )))))) do back;", 2, 12);
-        bad("when ((((((", 2, 11);
-        bad("when ((((((?", 1, 11);
-        good("when " + "not ".repeat(5) + "1 do back;", 1);
-        bad("when " + "not ".repeat(6) + "1 do back;", 2, 29);
-        bad("when " + "not ".repeat(7) + "1 do back;", 2, 29);
-        good("when not(not(not 1)) and not(not(not 1)) do back;", 1);
-        bad("when not(not(not(1))) do back;", 2, 17);
-        good("when not (1 and (2 or (3 and (4)))) or not not not not not 5 do back;", 1);
-        bad("when (1 or (2 or (3 or (4 or (5 or (6)))))) do back;", 2, 36);
+        Texts.good("when ((((( 1 ))))) do back;", 1);
+        Texts.bad("when (((((( 1 )))))) do back;", 2, 12);
+        Texts.bad("when ((((((", 2, 11);
+        Texts.bad("when ((((((?", 1, 11);
+        Texts.good("when " + "not ".repeat(5) + "1 do back;", 1);
+        Texts.bad("when " + "not ".repeat(6) + "1 do back;", 2, 29);
+        Texts.bad("when " + "not ".repeat(7) + "1 do back;", 2, 29);
+        Texts.good("when not(not(not 1)) and not(not(not 1)) do back;", 1);
+        Texts.bad("when not(not(not(1))) do back;", 2, 17);
+        Texts.good("when not (1 and (2 or (3 and (4)))) or not not not not not 5 do back;", 1);
+        Texts.bad("when (1 or (2 or (3 or (4 or (5 or (6)))))) do back;", 2, 36);
     }
 
     private static void faultsInOrder() {
-        bad("when do ?", 2, 5);
-        bad("when ? do", 1, 5);
-        bad("when 1 do money 101 101x", 3, 16);
-        bad("when 1 ) ? do money 101;", 2, 7);
+        Texts.bad("when do ?", 2, 5);
+        Texts.bad("when ? do", 1, 5);
+        Texts.bad("when 1 do money 101 101x", 3, 16);
+        Texts.bad("when 1 ) ? do money 101;", 2, 7);
     }
 
     /** What stood on the tape behind its end is not there. */
@@ -237,21 +237,5 @@ public final class LawTextTest {
         Due.is("its ruling", x.ruling(0, 0), 4);
         Due.is("a third law", Due.law(x, "when 0 do other;when 1 do back;"), 2);
         Due.is("its ruling", x.ruling(0, 0), 1);
-    }
-
-    private static void good(String text, int lines) {
-        HomeRoll x = new HomeRoll();
-        Due.is("law of: " + text, Due.law(x, text), lines);
-        Due.is("fault of: " + text, x.fault(0), 0);
-        Due.is("place in: " + text, x.fault(1), -1);
-        Due.is("lines of: " + text, x.about(4), lines);
-    }
-
-    private static void bad(String text, int fault, int place) {
-        HomeRoll x = new HomeRoll();
-        Due.is("law of: " + text, Due.law(x, text), -1);
-        Due.is("fault of: " + text, x.fault(0), fault);
-        Due.is("place in: " + text, x.fault(1), place);
-        Due.is("lines of: " + text, x.about(4), 0);
     }
 }
