@@ -27,6 +27,7 @@ public final class Section2ClaimBoundsTest {
         wrappingInts();
         relationsOfInts();
         truths();
+        valuesWithinOthers();
         firstLine();
         noneSuch();
         sumOfMoney();
@@ -396,6 +397,20 @@ public final class Section2ClaimBoundsTest {
         holds(y, "0 and 0 or 1", true);
         holds(y, "not 0 and 0", false);
         holds(y, "not 1 or 1", true);
+    }
+
+    /** As many sides as can be wait for the innermost one. */
+    private static void valuesWithinOthers() {
+        Due.sentence("and, or, not as truths (not 0)");
+        HomeRoll x = dear();
+        String open = "0 or 1 and (".repeat(5) + "0 or 1 and ";
+        String close = ")".repeat(5);
+        holds(x, open + "2+3=4+1" + close, true);
+        holds(x, open + "2+3=4-1" + close, false);
+        holds(x, open + "2-3<4-1" + close, true);
+        holds(x, open + "2-3>4-1" + close, false);
+        holds(x, "1 and not (".repeat(2) + "1 and not 2+3=4+1" + "))", false);
+        holds(x, "1 and not (".repeat(2) + "1 and not 2+3=4-1" + "))", true);
     }
 
     private static void firstLine() {
